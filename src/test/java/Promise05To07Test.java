@@ -196,6 +196,10 @@ final class Promise05To07Test {
         check.due("undo()", x.undo(), 1);
         waits(check, x, 0, 5, 1, 9, 2, 5, 3, 20, 0, 1, 1, 6);
         check.due("count(5)", x.count(5), 0);
+        check.due("strike(5, 5)", x.strike(5, 5), 2);
+        check.due("strike(9, 9), the first", x.strike(9, 9), 1);
+        check.due("strike(6, 6), the last", x.strike(6, 6), 1);
+        waits(check, x, 3, 20, 0, 1);
     }
 
     private static void strikeRefuses(Check check) {

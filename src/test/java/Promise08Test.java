@@ -16,10 +16,12 @@ final class Promise08Test {
         settingDecides(check);
         intoTheDeep(check);
         toTheDune(check);
+        ontoTheFirstCell(check);
         aCellTakesUpTo99(check);
         aCellGivesWhatItHas(check);
         lowestWaveNeverBreaks(check);
         sorting(check);
+        sortingTwice(check);
         laterWavesMeetMovedSand(check);
         surgeHoldsForWaves(check);
         surgeHoldsForRips(check);
@@ -118,6 +120,17 @@ final class Promise08Test {
         check.due("count(0)", x.count(0), 2520 + 6 - 2);
     }
 
+    private static void ontoTheFirstCell(Check check) {
+        check.begin("promise 8, from the cell 1 to the cell 0");
+        BeachBars x = new BeachBars();
+        x.setLevel(61);
+        x.wave(1, 5);
+        check.due("run(0)", x.run(0), 1);
+        ended(check, x, 0, 1, 5, 1, 0, 1, 1, 2);
+        heights(check, x, 1, 0, 62, 55);
+        check.due("count(2)", x.count(2), 0);
+    }
+
     private static void aCellTakesUpTo99(Check check) {
         check.begin("promise 8, a cell takes no more than up to 99");
         BeachBars x = new BeachBars();
@@ -200,6 +213,23 @@ final class Promise08Test {
             }
             check.due("ended(6, 0)", x.ended(6, 0), NONE);
         }
+    }
+
+    private static void sortingTwice(Check check) {
+        check.begin("promise 8, sorting once more");
+        BeachBars x = new BeachBars();
+        x.set(1, 1);
+        Beaches.waves(x, "0h3,1h4,2h5");
+        x.run(30);
+        check.due("ended(0, 0)", x.ended(0, 0), 2);
+        check.due("ended(2, 0)", x.ended(2, 0), 0);
+        Beaches.waves(x, "3h6,0h2");
+        x.run(30);
+        check.due("ended(0, 0)", x.ended(0, 0), 3);
+        check.due("ended(1, 0)", x.ended(1, 0), 0);
+        x.wave(1, 9);
+        x.run(30);
+        check.due("ended(0, 0)", x.ended(0, 0), 1);
     }
 
     private static void laterWavesMeetMovedSand(Check check) {

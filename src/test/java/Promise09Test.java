@@ -79,6 +79,19 @@ final class Promise09Test {
         heights(check, x, 3, 15, 20, 12);
         heights(check, x, 2, 12, 24, 21);
         heights(check, x, 1, 15, 15, 12);
+        BeachBars y = new BeachBars();
+        y.set(3, 30);
+        y.setLevel(70);
+        y.dump(1, 1, 68);
+        y.dump(2, 18, 10);
+        check.due("settle()", y.settle(), 4);
+        for (int row = 0; row <= 2; row += 2) {
+            heights(check, y, row, 0, 60, 56, 55);
+        }
+        for (int row = 1; row <= 3; row += 2) {
+            heights(check, y, row, 17, 9, 5, 4);
+        }
+        heights(check, y, 1, 0, 60, 68, 54);
     }
 
     private static void gapWithoutSand(Check check) {

@@ -62,6 +62,16 @@ final class Promise15To16Test {
         x.dump(1, 19, 40);
         check.due("the first cell", x.cell(1, 0, 2), 0);
         check.due("the last cell", x.cell(1, 19, 2), 0);
+        x.dump(2, 0, 1);
+        check.due("the last cell, and the next row is low", x.cell(1, 19, 2), 0);
+        x.dump(3, 19, 40);
+        check.due("the last cell of the last row", x.cell(3, 19, 2), 0);
+        x.dump(1, 19, 3);
+        x.dump(2, 0, 69);
+        check.due("the first cell, and the row before is low", x.cell(2, 0, 2), 0);
+        x.dump(0, 0, 65);
+        check.due("the first cell of the first row", x.cell(0, 0, 2), 0);
+        x.dump(1, 19, 40);
         x.dump(1, 1, 66);
         check.due("the cell 1", x.cell(1, 1, 2), 1);
         x.dump(1, 18, 41);
@@ -78,8 +88,12 @@ final class Promise15To16Test {
         check.due("the bar", x.cell(1, 12, 3), 0);
         check.due("another cell", x.cell(0, 11, 3), 0);
         x.dump(0, 12, 28);
+        x.dump(1, 12, 36);
         check.due("a bar is no gap", x.cell(0, 12, 3), 0);
         check.due("a bar", x.cell(0, 12, 2), 1);
+        check.due("the higher bar", x.cell(1, 12, 2), 1);
+        check.due("below the higher bar", x.cell(2, 12, 3), 1);
+        x.dump(1, 12, 30);
         x.setLevel(30);
         check.due("no bar, for it is dry", x.cell(2, 12, 3), 0);
         BeachBars y = new BeachBars();
@@ -91,6 +105,7 @@ final class Promise15To16Test {
         check.due("the cell 0", y.cell(2, 0, 3), 0);
         check.due("the cell 19", y.cell(2, 19, 3), 0);
         check.due("the first row", y.cell(0, 1, 3), 0);
+        check.due("row(2, 2)", y.row(2, 2), 2);
         BeachBars z = new BeachBars();
         Beaches.shape(z, 2, 5, 30, 39, 30);
         check.due("a bar", z.cell(2, 6, 2), 1);
@@ -172,6 +187,10 @@ final class Promise15To16Test {
         x.dump(0, 3, 0);
         x.dump(0, 4, 0);
         check.due("row(0, 5)", x.row(0, 5), 2 + 32);
+        check.due("row(0, 6)", x.row(0, 6), 5);
+        x.dump(0, 1, 69);
+        check.due("row(0, 6)", x.row(0, 6), 1);
+        check.due("row(1, 2)", x.row(1, 2), 4);
     }
 
     private static void dryCells(Check check) {

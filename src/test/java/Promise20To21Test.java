@@ -14,6 +14,7 @@ final class Promise20To21Test {
         sandRefuses(check);
         counts(check);
         accountsAddUp(check);
+        everyRowCounts(check);
         countRefuses(check);
     }
 
@@ -88,6 +89,26 @@ final class Promise20To21Test {
         check.holds("sand went to the dune", x.count(2) > 0);
         check.holds("rips scoured", x.count(7) > 0);
         check.holds("sand slumped", x.count(8) > 0);
+    }
+
+    private static void everyRowCounts(Check check) {
+        check.begin("promise 21, every row counts");
+        for (int row = 0; row < 4; row++) {
+            BeachBars x = new BeachBars();
+            x.dump(row, 12, 30);
+            check.due("count(15)", x.count(15), 1);
+            check.due("count(16)", x.count(16), row == 0 || row == 3 ? 1 : 2);
+            x.dump(row, 12, 40);
+            check.due("count(15)", x.count(15), 0);
+            check.due("count(16)", x.count(16), 0);
+            check.due("count(17)", x.count(17), 29);
+        }
+        BeachBars y = new BeachBars();
+        for (int row = 0; row < 4; row++) {
+            y.dump(row, 5 + row, 20);
+        }
+        check.due("count(15)", y.count(15), 3);
+        check.due("count(17)", y.count(17), 26);
     }
 
     private static void countRefuses(Check check) {
