@@ -648,11 +648,15 @@ public final class BeachBars {
         private int slumpRowOnce(int row, int steepest) {
             int moved = 0;
             for (int cell = 0; cell < LAST_CELL; cell++) {
-                int difference = heightAt(row, cell) - heightAt(row, cell + 1);
-                if (Math.abs(difference) > steepest) {
-                    int units = difference > 0 ? 1 : -1;
-                    addTo(row, cell, -units);
-                    addTo(row, cell + 1, units);
+                int at = row * CELLS + cell;
+                int difference = heights[at] - heights[at + 1];
+                if (difference > steepest) {
+                    heights[at]--;
+                    heights[at + 1]++;
+                    moved++;
+                } else if (difference < -steepest) {
+                    heights[at]++;
+                    heights[at + 1]--;
                     moved++;
                 }
             }
@@ -669,7 +673,6 @@ public final class BeachBars {
         Ride() {
         }
 
-        /** A fact of the ride, 0 to 6. */
         int fact(int what) {
             return facts[what];
         }

@@ -27,6 +27,13 @@ final class Beaches {
         }
     }
 
+    /** Looks whether a row has these heights, from the cell 'from' on. */
+    static void heights(Check check, BeachBars x, int row, int from, int... heights) {
+        for (int i = 0; i < heights.length; i++) {
+            check.due("cell(" + row + ", " + (from + i) + ", 0)", x.cell(row, from + i, 0), heights[i]);
+        }
+    }
+
     /** What is told of the state (not of the text, the history and the snapshot). */
     static List<Integer> state(BeachBars x) {
         List<Integer> seen = new ArrayList<>();

@@ -111,23 +111,20 @@ final class ModelTest {
         check.due("set(" + which + ", " + value + ")", x.set(which, value), model.set(which, value));
     }
 
+    /** Goes on with the text, or begins a new one; often without a fault, sometimes with any signs in it. */
     private void text(Check check) {
-        if (random.nextInt(5) == 0) {
+        if (random.nextBoolean()) {
             check.due("clearText()", x.clearText(), model.clearText());
+        } else if (random.nextInt(4) != 0) {
+            type(check, ',');
         }
-        int signs = random.nextInt(4);
-        for (int i = 0; i < signs; i++) {
-            type(check, random.nextInt(40) == 0 ? (char) random.nextInt(65536)
+        if (random.nextInt(4) == 0) {
+            type(check, random.nextInt(10) == 0 ? (char) random.nextInt(65536)
                     : SIGNS.charAt(random.nextInt(SIGNS.length())));
         }
         String group = random.nextInt(4) + "h" + (1 + random.nextInt(21));
         if (random.nextInt(3) == 0) {
             group += "x" + (1 + random.nextInt(9));
-        }
-        if (signs != 0 && random.nextBoolean()) {
-            group = "";
-            check.due("clearText()", x.clearText(), model.clearText());
-            group = random.nextInt(4) + "h" + (1 + random.nextInt(20)) + (random.nextBoolean() ? "," : "x4");
         }
         for (char sign : group.toCharArray()) {
             type(check, sign);

@@ -37,19 +37,13 @@ final class Promise08Test {
         }
     }
 
-    private static void heights(Check check, BeachBars x, int row, int from, int... heights) {
-        for (int i = 0; i < heights.length; i++) {
-            check.due("cell(" + row + ", " + (from + i) + ", 0)", x.cell(row, from + i, 0), heights[i]);
-        }
-    }
-
     private static void lowWave(Check check) {
         check.begin("promise 8, a low wave moves sand to the shore");
         BeachBars x = new BeachBars();
         x.wave(1, 7);
         check.due("run(0)", x.run(0), 1);
         ended(check, x, 0, 1, 7, 8, 7, 1, 1, 2);
-        heights(check, x, 1, 6, 42, 41, 34, 33);
+        Beaches.heights(check, x, 1, 6, 42, 41, 34, 33);
         check.due("count(0)", x.count(0), 2520);
         check.due("count(9)", x.count(9), 0);
     }
@@ -60,7 +54,7 @@ final class Promise08Test {
         x.wave(2, 8);
         check.due("run(0)", x.run(0), 2);
         ended(check, x, 0, 2, 8, 9, 6, 1, 2, 3);
-        heights(check, x, 2, 6, 42, 38, 37, 31, 32, 27);
+        Beaches.heights(check, x, 2, 6, 42, 38, 37, 31, 32, 27);
         check.due("cell(2, 10, 2)", x.cell(2, 10, 2), 1);
     }
 
@@ -71,20 +65,20 @@ final class Promise08Test {
         x.wave(2, 8);
         check.due("run(0)", x.run(0), 2);
         ended(check, x, 0, 2, 8, 9, 7, 1, 2, 3);
-        heights(check, x, 2, 7, 40, 37, 31);
+        Beaches.heights(check, x, 2, 7, 40, 37, 31);
         BeachBars y = new BeachBars();
         y.set(0, 9);
         y.dump(0, 8, 35);
         y.wave(0, 8);
         check.due("run(0)", y.run(0), 2);
         ended(check, y, 0, 0, 8, 9, 7, 1, 2, 3);
-        heights(check, y, 0, 7, 40, 36, 31);
+        Beaches.heights(check, y, 0, 7, 40, 36, 31);
         BeachBars z = new BeachBars();
         z.set(0, 5);
         z.wave(0, 5);
         check.due("run(0)", z.run(0), 2);
         ended(check, z, 0, 0, 5, 8, 6, 1, 2, 3);
-        heights(check, z, 0, 6, 42, 38, 35, 35, 30);
+        Beaches.heights(check, z, 0, 6, 42, 38, 35, 35, 30);
     }
 
     private static void intoTheDeep(Check check) {
@@ -95,13 +89,13 @@ final class Promise08Test {
         x.wave(0, 20);
         check.due("run(0)", x.run(0), 3);
         ended(check, x, 0, 0, 20, 19, 13, 1, 3, 10);
-        heights(check, x, 0, 13, 21, 16, 17, 9, 12, 6, 10);
+        Beaches.heights(check, x, 0, 13, 21, 16, 17, 9, 12, 6, 10);
         check.due("count(1)", x.count(1), 5);
         check.due("count(2)", x.count(2), 0);
         check.due("count(0)", x.count(0), 2520 + 12 - 5);
         check.due("count(7)", x.count(7), 1);
         check.due("count(8)", x.count(8), 0);
-        heights(check, x, 1, 16, 12, 8, 7, 3);
+        Beaches.heights(check, x, 1, 16, 12, 8, 7, 3);
     }
 
     private static void toTheDune(Check check) {
@@ -127,7 +121,7 @@ final class Promise08Test {
         x.wave(1, 5);
         check.due("run(0)", x.run(0), 1);
         ended(check, x, 0, 1, 5, 1, 0, 1, 1, 2);
-        heights(check, x, 1, 0, 62, 55);
+        Beaches.heights(check, x, 1, 0, 62, 55);
         check.due("count(2)", x.count(2), 0);
     }
 
@@ -140,7 +134,7 @@ final class Promise08Test {
         x.wave(0, 7);
         check.due("run(0)", x.run(0), 1);
         ended(check, x, 0, 0, 7, 6, 5, 1, 1, 1);
-        heights(check, x, 0, 4, 58, 88, 66, 39);
+        Beaches.heights(check, x, 0, 4, 58, 88, 66, 39);
         check.due("count(8)", x.count(8), 11);
         BeachBars y = new BeachBars();
         y.setLevel(70);
@@ -165,7 +159,7 @@ final class Promise08Test {
         y.dump(0, 18, 2);
         y.wave(0, 19);
         check.due("run(0)", y.run(0), 3);
-        heights(check, y, 0, 18, 2, 0);
+        Beaches.heights(check, y, 0, 18, 2, 0);
         check.due("count(1)", y.count(1), 3);
         BeachBars z = new BeachBars();
         z.setLevel(20);
@@ -192,7 +186,7 @@ final class Promise08Test {
         check.due("run(0)", x.run(0), 1);
         ended(check, x, 0, 0, 1, NONE, 6, 1, 0, 0);
         ended(check, x, 1, 0, 2, 7, 6, 1, 1, 1);
-        heights(check, x, 0, 6, 43, 38);
+        Beaches.heights(check, x, 0, 6, 43, 38);
     }
 
     private static void sorting(Check check) {
@@ -240,7 +234,7 @@ final class Promise08Test {
         check.due("run(0)", x.run(0), 2);
         ended(check, x, 0, 0, 7, 8, 7, 1, 1, 2);
         ended(check, x, 1, 0, 7, 8, 7, 1, 1, 2);
-        heights(check, x, 0, 7, 43, 32, 33);
+        Beaches.heights(check, x, 0, 7, 43, 32, 33);
         x.wave(0, 7);
         check.due("run(0)", x.run(0), 0);
         ended(check, x, 0, 0, 7, NONE, 7, 1, 0, 0);
@@ -272,9 +266,9 @@ final class Promise08Test {
         check.due("run(30)", x.run(30), 0);
         check.due("count(7)", x.count(7), 2);
         check.due("count(8)", x.count(8), 1);
-        heights(check, x, 1, 5, 44, 43);
-        heights(check, x, 3, 5, 44, 43);
-        heights(check, x, 2, 5, 54, 43);
+        Beaches.heights(check, x, 1, 5, 44, 43);
+        Beaches.heights(check, x, 3, 5, 44, 43);
+        Beaches.heights(check, x, 2, 5, 54, 43);
         BeachBars y = new BeachBars();
         y.dump(2, 5, 55);
         y.wave(0, 1);
@@ -291,13 +285,13 @@ final class Promise08Test {
         check.due("run(0)", x.run(0), 2);
         check.due("count(7)", x.count(7), 1);
         check.due("count(8)", x.count(8), 0);
-        heights(check, x, 1, 9, 33, 29, 28);
+        Beaches.heights(check, x, 1, 9, 33, 29, 28);
         BeachBars y = new BeachBars();
         y.set(3, 4);
         y.wave(0, 7);
         check.due("run(0)", y.run(0), 1);
         check.due("count(8)", y.count(8), 2);
-        heights(check, y, 0, 6, 42, 39, 36, 33);
+        Beaches.heights(check, y, 0, 6, 42, 39, 36, 33);
     }
 
     private static void counts(Check check) {

@@ -20,12 +20,6 @@ final class Promise09Test {
         isAnAct(check);
     }
 
-    private static void heights(Check check, BeachBars x, int row, int from, int... heights) {
-        for (int i = 0; i < heights.length; i++) {
-            check.due("cell(" + row + ", " + (from + i) + ", 0)", x.cell(row, from + i, 0), heights[i]);
-        }
-    }
-
     private static void atRest(Check check) {
         check.begin("promise 9, a beach at rest");
         BeachBars x = new BeachBars();
@@ -45,8 +39,8 @@ final class Promise09Test {
         check.due("settle()", x.settle(), 3);
         check.due("count(7)", x.count(7), 3);
         check.due("count(8)", x.count(8), 0);
-        heights(check, x, 1, 12, 23, 21, 19);
-        heights(check, x, 3, 12, 24, 20, 19);
+        Beaches.heights(check, x, 1, 12, 23, 21, 19);
+        Beaches.heights(check, x, 3, 12, 24, 20, 19);
         BeachBars y = new BeachBars();
         y.set(3, 30);
         Beaches.shape(y, 1, 12, 20, 20);
@@ -59,12 +53,12 @@ final class Promise09Test {
         check.due("settle()", y.settle(), 1);
         check.due("a bar now", y.cell(1, 13, 2), 1);
         check.due("a gap now", y.cell(2, 13, 3), 1);
-        heights(check, y, 2, 12, 24, 18, 16);
+        Beaches.heights(check, y, 2, 12, 24, 18, 16);
         check.due("settle()", y.settle(), 2);
         check.due("count(7)", y.count(7), 3);
-        heights(check, y, 0, 12, 33, 20, 18);
-        heights(check, y, 1, 12, 18, 22, 18);
-        heights(check, y, 2, 12, 24, 17, 17);
+        Beaches.heights(check, y, 0, 12, 33, 20, 18);
+        Beaches.heights(check, y, 1, 12, 18, 22, 18);
+        Beaches.heights(check, y, 2, 12, 24, 17, 17);
     }
 
     private static void neighboursOfGaps(Check check) {
@@ -73,12 +67,12 @@ final class Promise09Test {
         x.dump(0, 12, 29);
         x.dump(3, 15, 20);
         check.due("settle()", x.settle(), 2);
-        heights(check, x, 1, 12, 23, 22);
-        heights(check, x, 2, 15, 14, 13);
-        heights(check, x, 0, 12, 29, 21);
-        heights(check, x, 3, 15, 20, 12);
-        heights(check, x, 2, 12, 24, 21);
-        heights(check, x, 1, 15, 15, 12);
+        Beaches.heights(check, x, 1, 12, 23, 22);
+        Beaches.heights(check, x, 2, 15, 14, 13);
+        Beaches.heights(check, x, 0, 12, 29, 21);
+        Beaches.heights(check, x, 3, 15, 20, 12);
+        Beaches.heights(check, x, 2, 12, 24, 21);
+        Beaches.heights(check, x, 1, 15, 15, 12);
         BeachBars y = new BeachBars();
         y.set(3, 30);
         y.setLevel(70);
@@ -86,12 +80,12 @@ final class Promise09Test {
         y.dump(2, 18, 10);
         check.due("settle()", y.settle(), 4);
         for (int row = 0; row <= 2; row += 2) {
-            heights(check, y, row, 0, 60, 56, 55);
+            Beaches.heights(check, y, row, 0, 60, 56, 55);
         }
         for (int row = 1; row <= 3; row += 2) {
-            heights(check, y, row, 17, 9, 5, 4);
+            Beaches.heights(check, y, row, 17, 9, 5, 4);
         }
-        heights(check, y, 1, 0, 60, 68, 54);
+        Beaches.heights(check, y, 1, 0, 60, 68, 54);
     }
 
     private static void gapWithoutSand(Check check) {
@@ -106,7 +100,7 @@ final class Promise09Test {
         check.due("settle()", x.settle(), NONE);
         x.dump(1, 12, 1);
         check.due("settle()", x.settle(), 1);
-        heights(check, x, 1, 12, 0, 22);
+        Beaches.heights(check, x, 1, 12, 0, 22);
     }
 
     private static void gapIsFilledBeforeItGives(Check check) {
@@ -120,7 +114,7 @@ final class Promise09Test {
         check.due("cell(1, 13, 3)", x.cell(1, 13, 3), 1);
         check.due("cell(3, 13, 3)", x.cell(3, 13, 3), 1);
         check.due("settle()", x.settle(), 3);
-        heights(check, x, 1, 12, 23, 0, 19);
+        Beaches.heights(check, x, 1, 12, 23, 0, 19);
     }
 
     private static void gapBeforeFullCell(Check check) {
@@ -147,10 +141,10 @@ final class Promise09Test {
         check.due("settle()", x.settle(), NONE);
         x.dump(0, 5, 55);
         check.due("settle()", x.settle(), 1);
-        heights(check, x, 0, 3, 51, 48, 54, 43, 39);
+        Beaches.heights(check, x, 0, 3, 51, 48, 54, 43, 39);
         x.dump(3, 10, 46);
         check.due("settle()", x.settle(), 4);
-        heights(check, x, 3, 8, 36, 34, 42, 30, 24);
+        Beaches.heights(check, x, 3, 8, 36, 34, 42, 30, 24);
         check.due("count(8)", x.count(8), 5);
         check.due("count(7)", x.count(7), 0);
         BeachBars y = new BeachBars();
