@@ -18,6 +18,13 @@ public final class AllTests {
         Promise15To16Test.test(check);
         Promise17To19Test.test(check);
         Promise20To21Test.test(check);
+        EdgesOfArgumentsTest.test(check);
+        EdgesOfSandTest.test(check);
+        EdgesOfWavesTest.test(check);
+        EdgesOfSettlingTest.test(check);
+        EdgesOfTextsTest.test(check);
+        EdgesOfHistoryTest.test(check);
+        RefusalsTest.test(check);
         ModelTest.test(check);
         FaceTest.test(check);
         SourceTest.test(check, Files.readString(Path.of(args[0])));

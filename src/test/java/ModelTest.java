@@ -4,6 +4,8 @@ import java.util.Random;
 final class ModelTest {
     private static final int RUNS = 600;
     private static final int CALLS = 512;
+    // A change may be a text that is typed and read: at most so many calls.
+    private static final int CALLS_OF_A_CHANGE = 10;
     private static final int[] WILD = {Integer.MIN_VALUE, -1000, -1, 0, 1, 25, 100, 1000, Integer.MAX_VALUE};
     private static final String SIGNS = "0123456789hx,,hx";
 
@@ -24,16 +26,18 @@ final class ModelTest {
         }
     }
 
+    /** Each answer that is looked at is one call: no more of them than the document allows an object. */
     private void play(Check check) {
-        for (int call = 0; call < CALLS; call++) {
+        int first = check.asked();
+        for (int left = CALLS; left > 0; left = CALLS - (check.asked() - first)) {
             int wrong = check.wrong();
-            if (random.nextInt(100) < 45) {
+            if (left >= CALLS_OF_A_CHANGE && random.nextInt(100) < 45) {
                 changeSomething(check);
             } else {
                 askSomething(check);
             }
             if (check.wrong() != wrong) {
-                System.out.println("call " + call + " of the run was wrong");
+                System.out.println("call " + (check.asked() - first) + " of the run was wrong");
                 return;
             }
         }

@@ -1,9 +1,9 @@
-import java.util.ArrayList;
 import java.util.List;
 
 /** undo, keep and restore. */
 final class Promise12To14Test {
     private static final int NONE = -1005;
+    private static final int ACTS = 11;
 
     private Promise12To14Test() {
     }
@@ -18,7 +18,7 @@ final class Promise12To14Test {
         restoreIsAnAct(check);
     }
 
-    /** The acts, by number, on a beach that act 0 to act 5 have prepared. */
+    /** The acts, by number, on a beach that the acts before have prepared. */
     private static int act(BeachBars x, int number) {
         switch (number) {
             case 0:
@@ -39,6 +39,8 @@ final class Promise12To14Test {
                 return x.settle();
             case 8:
                 return x.restore();
+            case 9:
+                return x.wave(0, 5);
             default:
                 return x.run(0);
         }
@@ -102,26 +104,29 @@ final class Promise12To14Test {
         check.due("cell(0, 0, 0)", x.cell(0, 0, 0), 60);
     }
 
+    /** A beach with a snapshot, after the first of the acts. */
+    private static BeachBars after(Check check, int acts) {
+        BeachBars x = new BeachBars();
+        x.keep();
+        for (int number = 0; number < acts; number++) {
+            check.holds("act " + number + " is possible", act(x, number) >= 0);
+        }
+        return x;
+    }
+
     private static void everyActIsRecorded(Check check) {
         check.begin("promise 12, every act is recorded");
-        for (int last = 0; last <= 9; last++) {
-            BeachBars x = new BeachBars();
-            x.keep();
-            List<List<Integer>> states = new ArrayList<>();
-            for (int number = 0; number <= last; number++) {
-                states.add(Beaches.state(x));
-                if (number == 9) {
-                    x.wave(0, 5);
-                    states.add(Beaches.state(x));
+        for (int acts = 1; acts <= ACTS; acts++) {
+            int kept = Math.min(4, acts);
+            for (int undone = 1; undone <= kept; undone++) {
+                BeachBars x = after(check, acts);
+                for (int i = 1; i <= undone; i++) {
+                    check.due("undo() after " + acts + " acts", x.undo(), kept - i);
                 }
-                check.holds("act " + number + " is possible", act(x, number) >= 0);
+                check.holds("the state " + undone + " acts before act " + acts + " is back",
+                        Beaches.state(x).equals(Beaches.state(after(check, acts - undone))));
+                check.due("undo() at the end", undone == kept ? x.undo() : NONE, NONE);
             }
-            for (int i = Math.min(4, states.size()); i > 0; i--) {
-                check.due("undo() after act " + last, x.undo(), i - 1);
-                check.holds("a state before act " + last + " is back",
-                        Beaches.state(x).equals(states.remove(states.size() - 1)));
-            }
-            check.due("undo() at the end", x.undo(), NONE);
         }
     }
 
