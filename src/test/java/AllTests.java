@@ -2,12 +2,12 @@ import java.io.IOException;
 import java.nio.file.Files;
 import java.nio.file.Path;
 
-/** Runs every test of the project; the argument is the path of the program's source. */
+/** Runs every test of the project; the arguments are the paths of the program's source and of README.md. */
 public final class AllTests {
     private AllTests() {
     }
 
-    public static void main(String[] args) throws IOException {
+    public static void main(String[] args) throws IOException, ReflectiveOperationException {
         Check check = new Check();
         Promise01To04Test.test(check);
         Promise05To07Test.test(check);
@@ -27,7 +27,8 @@ public final class AllTests {
         RefusalsTest.test(check);
         ModelTest.test(check);
         FaceTest.test(check);
-        SourceTest.test(check, Files.readString(Path.of(args[0])));
+        LanguageTest.test(check, Path.of(args[0]));
+        ReadmeTest.test(check, Files.readString(Path.of(args[1])));
         System.out.println(check.asked() + " answers of the project's tests, " + check.wrong() + " wrong");
         if (check.wrong() != 0) {
             System.exit(1);
